@@ -1577,8 +1577,7 @@ public final class IceBoats {
         int choice;
 
         void forget() {
-            for (int i = 0; i < cells.length; i++) {
-                cells[i] = 0;
+            for (int i = 0; i < offered.length; i++) {
                 offered[i] = i % CHOICES == 0;
             }
         }

@@ -385,6 +385,7 @@ final class BoatsTest {
         CHECK.due("a LOOK in this TICK", x.match(0) > 0 ? 1 : 0, 1);
         latestLookCounts();
         heardLookIsNotMade();
+        chartAtTheEnds();
     }
 
     private static void latestLookCounts() {
@@ -403,6 +404,29 @@ final class BoatsTest {
         CHECK.due("by the latest", x.match(0), 1);
         x.could(0);
         CHECK.due("set()", x.set(), 2);
+    }
+
+    // CELL 0 and CELL 63 are on the CHART like all others
+    private static void chartAtTheEnds() {
+        IceBoats x = new IceBoats();
+        x.cell(0, 3, 1, 0);
+        x.cell(62, 3, 1, 0);
+        x.boat(1, 0, 62, 100);
+        x.tick();
+        x.look(0);
+        x.look(1);
+        CHECK.due("0 and 1", x.match(0), 2);
+        x.could(0);
+        CHECK.due("set()", x.set(), 3);
+        CHECK.due("62 and 63", x.match(1), 2);
+        x.chart(1, 9);
+        x.chart(62, 9);
+        CHECK.due("just 0", x.match(0), 1);
+        x.could(0);
+        CHECK.due("set()", x.set(), 1);
+        CHECK.due("just 63", x.match(1), 1);
+        x.could(1);
+        CHECK.due("set()", x.set(), 1L << 63);
     }
 
     private static void heardLookIsNotMade() {

@@ -43,6 +43,11 @@ final class MapsTest {
         CHECK.found(x, "10, the first", () -> x.shifts(1, 0, 1), Check.UNLIKE);
         fill(x, 1, 16, -1);
         CHECK.found(x, "-1", () -> x.shifts(0, 1, 1), Check.UNLIKE);
+        for (int i = 0; i < 16; i++) {
+            x.row(1, 16);
+            x.lay(1, i, 10);
+            CHECK.found(x, "10 at place " + i, () -> x.shifts(0, 1, 1), Check.UNLIKE);
+        }
         fill(x, 1, 16, 9);
         CHECK.due("9 is fine", x.shifts(0, 1, 1), 0);
     }
@@ -91,6 +96,10 @@ final class MapsTest {
         CHECK.refused(x, "bits 64", () -> x.mapped(64), IceBoats.BAD);
         CHECK.refused(x, "bits -1", () -> x.mapped(-1), IceBoats.BAD);
         CHECK.due("none", x.mapped(63), 0);
+        IceBoats y = new IceBoats();
+        y.look(4);
+        CHECK.due("the first LOOK", y.mapped(16), 1);
+        CHECK.due("set()", y.set(), 1);
         x.boat(1, 0, 63, 100);
         x.look(0);
         x.look(0);
@@ -188,6 +197,12 @@ final class MapsTest {
         CHECK.due("two of them", x.plan(7, 22), 5);
         CHECK.due("the first none, then the lesser ROW", x.asked(), 520);
         x.boat(0, 0, 32, 100);
+        for (int r = 0; r < 6; r++) {
+            CHECK.row(x, r, 3, 3);
+        }
+        CHECK.row(x, 5, 3, 3, 3);
+        CHECK.due("all ROWS", x.plan(32, 63), 4);
+        CHECK.due("the last ROW", x.asked(), 6);
         CHECK.due("each", x.plan(3, 6), 6);
         CHECK.due("the lesser ROW", x.asked(), 22);
     }
@@ -304,6 +319,23 @@ final class MapsTest {
         CHECK.row(x, 0, 2, 2);
         CHECK.due("one ROW for both", x.courses(0, 0, 0), 0);
         fewestAhead();
+        noneCarried();
+    }
+
+    // Ten WAYS, none of them carried: the oddest of all
+    private static void noneCarried() {
+        IceBoats x = new IceBoats();
+        x.cell(9, 1, 1, 0);
+        fill(x, 0, 10, 0);
+        CHECK.row(x, 1, 10, 9);
+        CHECK.due("just one", x.courses(9, 0, 1), 1);
+        CHECK.due("all bits", x.asked(), 1023);
+        for (int n = 1; n <= 10; n++) {
+            fill(x, 0, n, 0);
+            CHECK.row(x, 1, n, 9);
+            CHECK.due("just one of " + n, x.courses(9, 0, 1), 1);
+            CHECK.due("all bits of " + n, x.asked(), (1 << n) - 1);
+        }
     }
 
     // Fewest not carried goes ahead of the lesser bits

@@ -36,7 +36,9 @@ final class RowsTest {
         CHECK.found(x, "row(5, -1) leaves it", () -> x.row(5, -1), Check.SIZE);
         CHECK.due("row(5, 40) again", x.row(5, 40), 40);
         CHECK.asked(x, "lay(5, 39, 3), 0 anew", x.lay(5, 39, 3), 0);
+        x.lay(5, 0, 8);
         CHECK.due("row(5, 2)", x.row(5, 2), 2);
+        CHECK.asked(x, "lay(5, 0, 0), 0 anew", x.lay(5, 0, 0), 0);
         CHECK.found(x, "lay(5, 2, 1), shorter now", () -> x.lay(5, 2, 1), Check.BEYOND);
         CHECK.due("tear(5)", x.tear(5), 1);
         CHECK.found(x, "lay of a torn one", () -> x.lay(5, 0, 1), Check.NOTHING);

@@ -50,6 +50,13 @@ final class SeaTest {
             x.boat(b, 0, 20, 9);
         }
         CHECK.refused(x, "rock where one BOAT is", () -> x.rock(0, true), IceBoats.STATE);
+        for (int b = 0; b < 6; b++) {
+            x.boat(b, 0, 40 + b, 9);
+        }
+        for (int b = 0; b < 6; b++) {
+            int c = 40 + b;
+            CHECK.refused(x, "rock where just BOAT " + b + " is", () -> x.rock(c, true), IceBoats.STATE);
+        }
         x.boat(5, 0, 62, 9);
         CHECK.due("rock(0, true), all gone", x.rock(0, true), 0);
         CHECK.due("home(5)", x.home(5), 1);

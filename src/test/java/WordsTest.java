@@ -307,7 +307,7 @@ final class WordsTest {
         x.boat(2, 0, 3, 0);
         CHECK.ticks(x, 1);
         x.boat(3, 0, 60, 9);
-        CHECK.ticks(x, 1);
+        CHECK.due("HEARD by 1 and 3", x.tick(), 2);
         CHECK.due("ABLE", x.heard(0, 1), 4);
         CHECK.due("DEAD as it came", x.heard(0, 2), DEAF);
         CHECK.due("DEAD and again let down", x.heard(0, 3), 4);
@@ -359,6 +359,7 @@ final class WordsTest {
         CHECK.due("just where it is", x.set(), 1L << at);
         CHECK.due("HEARD by now", x.heard(0, 1), 4 + Math.max(at, 1));
         sameCell();
+        notBack();
         noneLeft();
         manySources();
     }
@@ -384,6 +385,37 @@ final class WordsTest {
         x.could(2);
         long beside = (1L << at | 1L << at + 1 | (at == 0 ? 0 : 1L << at - 1)) & 0x7L;
         CHECK.due("took 1: TIME 1, or 0", x.set(), beside);
+    }
+
+    // A sound does not come back to where it is from
+    private static void notBack() {
+        IceBoats y = new IceBoats();
+        y.cell(0, 3, 1, 0);
+        y.cell(1, 3, 1, 0);
+        int l = 1;
+        while (!twiceCarried(l)) {
+            l++;
+        }
+        y.seed(l);
+        for (int b = 1; b < 6; b++) {
+            y.boat(b, 3, 63, 100);
+        }
+        CHECK.ticks(y, 2);
+        CHECK.asked(y, "carried twice", y.told(0, 1), 2);
+        y.boat(1, 3, 0, 100);
+        y.cell(0, 0, 1, 0);
+        y.cell(1, 0, 1, 0);
+        y.say(1, 1, 0);
+        CHECK.ticks(y, 2);
+        CHECK.due("HEARD", y.heard(0, 0), 4);
+        y.could(0);
+        CHECK.due("just 2, not 0 again", y.set(), 4);
+    }
+
+    private static boolean twiceCarried(int l) {
+        int one = l * 1103515245 + 12345;
+        int two = one * 1103515245 + 12345;
+        return (one >>> 16 & 0x7FFF) % 4 != 0 && (two >>> 16 & 0x7FFF) % 4 != 0;
     }
 
     // What the word tells does not fit: COULD stays
@@ -508,6 +540,10 @@ final class WordsTest {
         x.tick();
         CHECK.asked(x, "a WISH is for one TICK", x.told(2, 1), 17);
         CHECK.due("how many HEARD it", x.tells(0, 3), 5);
+        IceBoats y = new IceBoats();
+        y.say(5, 3, 0);
+        y.tick();
+        CHECK.due("0 to 4 HEARD it", y.tells(0, 3), 5);
         x.say(0, 3, 1);
         CHECK.ticks(x, 2);
         x.boat(5, 0, 9, 100);
@@ -685,5 +721,16 @@ final class WordsTest {
         }
         CHECK.due("all, deep 3", x.allKnow(0, 63, 3), 12);
         CHECK.due("of another word", x.allKnow(1, 63, 1), 2);
+        IceBoats y = new IceBoats();
+        CHECK.ticks(y, 3);
+        y.say(1, 0, 0);
+        CHECK.due("the sayer from then", y.allKnow(0, 2, 3), 3);
+        CHECK.due("the sayer from then", y.knows(0, 1, IceBoats.NONE, IceBoats.NONE), 3);
+        y.tick();
+        CHECK.due("0 KNOWS", y.allKnow(0, 3, 1), 4);
+        CHECK.due("1 does not KNOW that", y.allKnow(0, 3, 2), NONE);
+        y.say(0, 0, 0);
+        y.tick();
+        CHECK.due("1 KNOWS that", y.allKnow(0, 3, 2), 5);
     }
 }
