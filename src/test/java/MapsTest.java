@@ -14,6 +14,7 @@ final class MapsTest {
         odds();
         refusedCourses();
         courses();
+        shortened();
         CHECK.end();
     }
 
@@ -205,6 +206,30 @@ final class MapsTest {
         CHECK.due("the last ROW", x.asked(), 6);
         CHECK.due("each", x.plan(3, 6), 6);
         CHECK.due("the lesser ROW", x.asked(), 22);
+    }
+
+    // What was behind the end of a longer ROW is not there any more
+    private static void shortened() {
+        for (int v : new int[] {77, 4, -9}) {
+            IceBoats x = new IceBoats();
+            fill(x, 0, 40, v);
+            fill(x, 1, 40, v);
+            x.row(0, 16);
+            x.row(1, 16);
+            CHECK.due("16 of 40", x.shifts(0, 1, 16), 1);
+            x.row(0, 2);
+            x.boat(1, 0, 0, 0);
+            CHECK.due("2 of 40, without POWER", x.plan(2, 1), 1);
+            CHECK.due("by ROW 0", x.asked(), 1);
+            CHECK.row(x, 0, 3);
+            CHECK.due("1 of 40", x.plan(1, 1), 2);
+            share(x, "1 of 40", x.odds(0, 0), 0, 1);
+            x.row(1, 0);
+            CHECK.due("none of 40 seen", x.courses(0, 0, 1), 2);
+            CHECK.row(x, 1, 1, 1);
+            CHECK.due("one of 20 seen", x.courses(0, 0, 1), 2);
+            CHECK.asked(x, "mean", x.mean(0), 3);
+        }
     }
 
     private static void refusedOdds() {

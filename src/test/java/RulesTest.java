@@ -51,6 +51,16 @@ final class RulesTest {
             }
         }
         IceBoats x = new IceBoats();
+        CHECK.text(x, 0, "H123456789");
+        x.text(0, 2);
+        x.put(0, 0, 72);
+        x.put(0, 1, 57);
+        CHECK.due("what was behind the end", x.fault(0), NONE);
+        CHECK.due("H", x.rules(0, 0), 1);
+        CHECK.due("is not there any more", x.rule(0, 0), 9);
+        x.text(0, 1);
+        x.put(0, 0, 72);
+        CHECK.due("nor is this", x.fault(0), 1);
         x.text(0, 2);
         x.put(0, 0, 72 + 256);
         x.put(0, 1, 48 - 256);
