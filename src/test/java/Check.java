@@ -5,6 +5,8 @@ import java.util.function.LongSupplier;
 final class Check {
     static final int NOTHING = 1, BEYOND = 2, UNLIKE = 3, NOUGHT = 4, SIZE = 5;
     private final String name;
+    private String sentence = "";
+    private int sentences;
     private int checks;
     private int wrong;
 
@@ -12,12 +14,30 @@ final class Check {
         this.name = name;
     }
 
+    /** The promise's number (0: the terms) and the words of the document that the checks behind this are of. */
+    void sentence(int promise, String words) {
+        sentences++;
+        sentence = " [" + promise + ": " + words + "]";
+    }
+
     void due(String call, long got, long want) {
         checks++;
         if (got != want) {
             wrong++;
-            System.out.println(name + ": " + call + " answered " + got + ", due is " + want);
+            System.out.println(name + ": " + call + " answered " + got + ", due is " + want + sentence);
         }
+    }
+
+    void bad(IceBoats x, String call, LongSupplier run) {
+        refused(x, call, run, IceBoats.BAD);
+    }
+
+    void state(IceBoats x, String call, LongSupplier run) {
+        refused(x, call, run, IceBoats.STATE);
+    }
+
+    void full(IceBoats x, String call, LongSupplier run) {
+        refused(x, call, run, IceBoats.FULL);
     }
 
     /** A call that answers 1 and tells by asked(). */
@@ -48,6 +68,13 @@ final class Check {
             x.asked(), x.set(), x.upper(), x.lower(), x.digest()};
     }
 
+    /** A ROW of n places that are all alike. */
+    void fill(IceBoats x, int r, int n, int v) {
+        int[] places = new int[n];
+        Arrays.fill(places, v);
+        row(x, r, places);
+    }
+
     void row(IceBoats x, int r, int... places) {
         x.row(r, places.length);
         for (int i = 0; i < places.length; i++) {
@@ -69,7 +96,8 @@ final class Check {
     }
 
     void end() {
-        System.out.println(name + ": " + checks + " checks, " + wrong + " wrong");
+        String of = sentences == 0 ? "" : " of " + sentences + " sentences";
+        System.out.println(name + ": " + checks + " checks" + of + ", " + wrong + " wrong");
         if (wrong != 0) {
             System.exit(1);
         }
