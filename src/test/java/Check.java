@@ -1,4 +1,6 @@
 import java.util.Arrays;
+import java.util.HashSet;
+import java.util.Set;
 import java.util.function.LongSupplier;
 
 /** Counts answers that are not as due, and ends a test with exit code 1 if there was one. */
@@ -6,7 +8,7 @@ final class Check {
     static final int NOTHING = 1, BEYOND = 2, UNLIKE = 3, NOUGHT = 4, SIZE = 5;
     private final String name;
     private String sentence = "";
-    private int sentences;
+    private final Set<String> sentences = new HashSet<>();
     private int checks;
     private int wrong;
 
@@ -16,8 +18,8 @@ final class Check {
 
     /** The promise's number (0: the terms) and the words of the document that the checks behind this are of. */
     void sentence(int promise, String words) {
-        sentences++;
         sentence = " [" + promise + ": " + words + "]";
+        sentences.add(sentence);
     }
 
     void due(String call, long got, long want) {
@@ -96,7 +98,7 @@ final class Check {
     }
 
     void end() {
-        String of = sentences == 0 ? "" : " of " + sentences + " sentences";
+        String of = sentences.isEmpty() ? "" : " of " + sentences.size() + " sentences";
         System.out.println(name + ": " + checks + " checks" + of + ", " + wrong + " wrong");
         if (wrong != 0) {
             System.exit(1);

@@ -695,6 +695,7 @@ final class EdgeBoatsTest {
         x.chart(8, 9);
         CHECK.due("another ICE, 9", x.match(0), 1);
         couldBe(x, 0, 1L << 9);
+        matchesAtTheEnds();
         CHECK.sentence(23, "(If none would be left, COULD stays.)");
         IceBoats y = spread();
         for (int c = 8; c < 11; c++) {
@@ -717,6 +718,31 @@ final class EdgeBoatsTest {
         z.chart(9, 7);
         CHECK.due("not as it is by then", z.match(0), 2);
         couldBe(z, 0, 5L << 8);
+    }
+
+    private static void matchesAtTheEnds() {
+        CHECK.sentence(0, "COULD keeps only CELLS for which the CHART tells that ICE: the first CELL and the last one");
+        for (int last = 0; last < 2; last++) {
+            IceBoats x = new IceBoats();
+            int end = 63 * last;
+            int beside = 1 + 61 * last;
+            x.cell(beside, last == 0 ? 2 : 3, 1, 0);
+            x.boat(0, 0, beside, 100);
+            x.tick();
+            x.look(0);
+            CHECK.due("nothing told", x.match(0), 2);
+            couldBe(x, 0, 1L << end | 1L << beside);
+            x.chart(end, 9);
+            CHECK.due("without the end", x.match(0), 1);
+            couldBe(x, 0, 1L << beside);
+            x.boat(0, 0, beside, 100);
+            x.tick();
+            x.look(0);
+            x.chart(end, 0);
+            x.chart(beside, 9);
+            CHECK.due("just the end", x.match(0), 1);
+            couldBe(x, 0, 1L << end);
+        }
     }
 
     private static void homes() {

@@ -555,6 +555,15 @@ final class EdgeMapsTest {
             CHECK.due("there it never comes", x.courses(27, 0, 1), 0);
             CHECK.due("none", x.asked(), 0);
         }
+        CHECK.sentence(40, "the LEAST ODD one's bits, where it ends in the first CELL, in the last one");
+        for (int c : new int[] {0, 63}) {
+            IceBoats y = new IceBoats();
+            y.cell(c, c == 0 ? 3 : 2, 1, 0);
+            y.row(0, 4);
+            CHECK.row(y, 1, 4, c);
+            CHECK.due("never carried from " + c, y.courses(c, 0, 1), 1);
+            CHECK.due("all bits", y.asked(), 15);
+        }
         CHECK.sentence(0, "of these that with the fewest not carried, of alike ones the first (not carried as 1, the first WAY highest)");
         for (int c = 0; c < 7; c++) {
             x.cell(c, 3, 1, 0);

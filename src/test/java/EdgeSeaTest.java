@@ -187,6 +187,11 @@ final class EdgeSeaTest {
         x.boat(5, 0, 63, 10);
         x.home(5);
         CHECK.due("none is there any more", x.rock(0, true), 0);
+        for (int b = 0; b < 5; b++) {
+            int c = 40 + b;
+            x.boat(b, 0, c, 10);
+            CHECK.state(x, "just BOAT " + b + " is there", () -> x.rock(c, true));
+        }
         x.hole(62);
         CHECK.state(x, "a HOME one is there", () -> x.rock(63, true));
         CHECK.due("THE HOLE is there no more", x.rock(61, true), 0);

@@ -19,6 +19,7 @@ final class EdgeToldTest {
         findingsOfAll();
         digestWraps();
         digestOfWhatIsMissing();
+        digestWhenFull();
         CHECK.end();
     }
 
@@ -365,6 +366,67 @@ final class EdgeToldTest {
         x.row(0, 1);
         CHECK.due("shorter now", x.digest(), digestWith(1, 0));
         CHECK.due("again", x.digest(), digestWith(1, 0));
+    }
+
+    // 40 words and 40 LOOKS, some of them HELD by others, some words MET, some not come yet
+    private static IceBoats full() {
+        IceBoats x = new IceBoats();
+        for (int c = 0; c < 64; c++) {
+            x.cell(c, c % 5, 1 + c % 4, c % 10);
+            x.chart(c, c % 2 == 0 ? NONE : c % 10);
+        }
+        x.rock(63, true);
+        x.hole(62);
+        for (int b = 0; b < 6; b++) {
+            x.boat(b, b % 4, 9 * b, 1000);
+        }
+        for (int w = 0; w < 40; w++) {
+            x.look(w % 5);
+            x.say(w % 5, w % 5, w % 5 == 2 ? w : w % 4);
+            if (w % 2 == 1) {
+                x.tick();
+            }
+        }
+        CHECK.due("words", x.count(2), 40);
+        CHECK.due("LOOKS", x.count(3), 40);
+        return x;
+    }
+
+    private static void digestWhenFull() {
+        CHECK.sentence(48, "of each word word() 0 to 3, heard() of BOATS 0 to 5; of each LOOK looked() 0 to 3: 40 of each");
+        IceBoats x = full();
+        BigInteger h = BigInteger.valueOf(17);
+        for (int what = 0; what < 8; what++) {
+            h = more(h, x.count(what));
+        }
+        for (int i = 0; i < 64 * 5; i++) {
+            x.sea(i / 5, i % 5);
+            h = more(h, x.asked());
+        }
+        h = more(h, 62);
+        for (int b = 0; b < 6; b++) {
+            for (int what = 0; what < 6; what++) {
+                x.told(b, what);
+                h = more(h, x.asked());
+            }
+            x.could(b);
+            h = more(h, x.set(), x.rule(b, 0), x.rule(b, 1), x.rule(b, 2), x.rule(b, 3));
+        }
+        for (int w = 0; w < 40; w++) {
+            for (int what = 0; what < 4; what++) {
+                x.word(w, what);
+                h = more(h, x.asked());
+            }
+            for (int b = 0; b < 6; b++) {
+                h = more(h, x.heard(w, b));
+            }
+        }
+        for (int i = 0; i < 160; i++) {
+            x.looked(i / 4, i % 4);
+            h = more(h, x.asked());
+        }
+        CHECK.due("digest()", x.digest(), more(h, -1, -1, -1, -1, -1, -1, -1, -1, -1, -1).longValue());
+        CHECK.due("alike by the same calls", x.digest(), full().digest());
     }
 
     private static long powerOf31(int n) {

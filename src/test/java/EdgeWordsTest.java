@@ -23,6 +23,7 @@ final class EdgeWordsTest {
         farTookOne();
         farAsLongAsItTook();
         farLeavesNone();
+        farWhereItCouldBeAnywhere();
         seen();
         wishes();
         meets();
@@ -30,6 +31,7 @@ final class EdgeWordsTest {
         knowsOf();
         chains();
         allKnow();
+        allKnowByChains();
         CHECK.end();
     }
 
@@ -90,6 +92,13 @@ final class EdgeWordsTest {
             y.rock(c, wall);
         }
         CHECK.due("through 35 CELLS of WARMTH 4", y.time(0, 56), 4 * 35);
+        CHECK.sentence(0, "TIME of two CELLS: no call is told by the one ahead of it");
+        IceBoats z = new IceBoats();
+        z.cell(1, 0, 4, 0);
+        for (int t = 0; t <= 7; t++) {
+            CHECK.due("down", z.time(0, 8 * t), t);
+            CHECK.due("into what is warm", z.time(63, 1), 16);
+        }
     }
 
     private static void noWay() {
@@ -345,6 +354,9 @@ final class EdgeWordsTest {
             CHECK.due("as it is said", x.tells(0, 3), 0);
             x.tick();
             CHECK.due("all others", x.tells(0, 3), 5);
+            x.say(5, kind, 0);
+            x.tick();
+            CHECK.due("all others, the first one, too", x.tells(1, 3), 5);
             IceBoats y = new IceBoats();
             y.say(0, kind, 0);
             y.say(1, kind, 0);
@@ -574,6 +586,22 @@ final class EdgeWordsTest {
         z.say(0, 1, 0);
         CHECK.ticks(z, 2);
         couldBe(z, 1, 1L << at);
+        for (int side = -2; side <= 2; side += 4) {
+            IceBoats v = spread(5);
+            at = cellOf(v, 1);
+            v.boat(0, 3, Math.max(8, at + side), 100);
+            v.say(0, 1, 0);
+            CHECK.ticks(v, 2);
+            CHECK.due("HEARD", v.heard(0, 1) > 4 ? 1 : 0, 1);
+            int from = cellOf(v, 0);
+            int took = v.heard(0, 1) - 4;
+            couldBe(v, 1, beside(from, took) & 0x1FL << 8);
+        }
+    }
+
+    // CELLS to the left and to the right that are as many steps off; the CELL itself, too, for 1
+    private static long beside(int from, int took) {
+        return 1L << from - took | 1L << from + took | (took == 1 ? 1L << from : 0);
     }
 
     private static void farAsLongAsItTook() {
@@ -656,6 +684,44 @@ final class EdgeWordsTest {
             cells |= x.time(63, c) == took ? 1L << c : 0;
         }
         return cells;
+    }
+
+    // BOAT 1 could be in each of the 64 CELLS: a CURRENT led row by row, there and back
+    private static IceBoats anywhere() {
+        IceBoats x = only(0, 0);
+        for (int c = 0; c < 64; c++) {
+            boolean right = c / 8 % 2 == 0;
+            x.cell(c, c % 8 == (right ? 7 : 0) ? 4 : right ? 3 : 2, 1, 0);
+        }
+        CHECK.ticks(x, 63);
+        for (int c = 0; c < 64; c++) {
+            x.cell(c, 0, 1 + c * 7 % 4, 0);
+        }
+        couldBe(x, 1, -1L);
+        return x;
+    }
+
+    private static void farWhereItCouldBeAnywhere() {
+        CHECK.sentence(0, "COULD of all 64 CELLS: just those to which TIME is as long as it took are kept");
+        for (int from : new int[] {0, 7, 27, 56, 63, 36}) {
+            IceBoats x = anywhere();
+            int at = cellOf(x, 1);
+            x.boat(0, 3, from, 100);
+            int took = Math.max(x.time(from, at), 1);
+            x.say(0, 1, 0);
+            if (took > 12) {
+                CHECK.due("not LOUD", x.heard(0, 1), NEVER);
+                continue;
+            }
+            CHECK.ticks(x, took);
+            CHECK.due("HEARD", x.heard(0, 1), 63 + took);
+            long cells = 0;
+            for (int c = 0; c < 64; c++) {
+                int t = x.time(from, c);
+                cells |= t == took || (t == 0 && took == 1) ? 1L << c : 0;
+            }
+            couldBe(x, 1, cells);
+        }
     }
 
     private static void seen() {
@@ -865,5 +931,40 @@ final class EdgeWordsTest {
         x.tick();
         CHECK.due("two, deep 3", x.allKnow(0, 33, 3), 4);
         CHECK.due("all, deep 1, as it was", x.allKnow(0, 63, 1), 2);
+    }
+
+    // BOATS one step from one another in a row, that speak by turns
+    private static void allKnowByChains() {
+        CHECK.sentence(31, "all of BOATS, each of each, and so on: the latest of all chains, NONE if one of them is");
+        IceBoats x = only(24, 25, 26, 27, 28, 29);
+        int[] turns = {0, 3, 5, 1, 4, 2, 0, 1, 5, 2, 3, 4, 0, 5};
+        for (int b : turns) {
+            x.say(b, 0, 0);
+            CHECK.ticks(x, 6);
+        }
+        for (int w = 0; w < turns.length; w++) {
+            for (int set = 1; set <= 63; set++) {
+                for (int deep = 1; deep <= 3; deep++) {
+                    CHECK.due("allKnow(" + w + ", " + set + ", " + deep + ")", x.allKnow(w, set, deep), latestOfChains(x, w, set, deep));
+                }
+            }
+        }
+    }
+
+    private static long latestOfChains(IceBoats x, int w, int set, int deep) {
+        int latest = 0;
+        for (int i = 0; i < 216; i++) {
+            int a = i % 6;
+            int b = i / 6 % 6;
+            int c = i / 36;
+            if ((set >> a & set >> b & set >> c & 1) == 1) {
+                int from = x.knows(w, a, deep > 1 ? b : NONE, deep > 2 ? c : NONE);
+                if (from == NONE) {
+                    return NONE;
+                }
+                latest = Math.max(latest, from);
+            }
+        }
+        return latest;
     }
 }
