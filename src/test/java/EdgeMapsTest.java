@@ -10,6 +10,7 @@ final class EdgeMapsTest {
         shiftNumbers();
         shiftRows();
         shiftPlaces();
+        shortenedMaps();
         shiftsAtTheEnds();
         placesTold();
         mapped();
@@ -91,6 +92,14 @@ final class EdgeMapsTest {
                 CHECK.due(v + " at " + i, x.shifts(0, 1, 1) >= 0 ? 1 : 0, 1);
             }
         }
+    }
+
+    private static void shortenedMaps() {
+        CHECK.sentence(36, "UNLIKE: a number: what stood behind the 16 as the ROW was longer is none of them");
+        IceBoats x = new IceBoats();
+        CHECK.fill(x, 0, 40, 10);
+        x.row(0, 16);
+        CHECK.due("16 of 40", x.shifts(0, 0, 16), 1);
     }
 
     // One place told in each: just one SHIFT leads the first one's to the second one's
@@ -349,6 +358,17 @@ final class EdgeMapsTest {
         CHECK.row(x, 5, 3, 3);
         CHECK.due("all go by the longest", x.plan(56, 63), 9);
         CHECK.due("told", x.asked(), 666);
+        CHECK.sentence(0, "each BOAT one of the told ROWS: not two, be others without POWER");
+        CHECK.row(x, 0, 3, 3, 3);
+        CHECK.row(x, 1, 4, 4, 4);
+        int[] tens = {1, 10, 100};
+        for (int able = 0; able < 3; able++) {
+            for (int b = 0; b < 3; b++) {
+                x.boat(b, 0, 0, b == able ? 100 : 0);
+            }
+            CHECK.due("just BOAT " + able + " goes", x.plan(7, 3), 4);
+            CHECK.due("by the first ROW", x.asked(), tens[able]);
+        }
     }
 
     private static void share(IceBoats x, String what, int done, long upper, long lower) {
