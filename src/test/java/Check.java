@@ -1,3 +1,6 @@
+import java.io.IOException;
+import java.nio.file.Files;
+import java.nio.file.Path;
 import java.util.Arrays;
 import java.util.HashSet;
 import java.util.Set;
@@ -9,6 +12,7 @@ final class Check {
     private final String name;
     private String sentence = "";
     private final Set<String> sentences = new HashSet<>();
+    private String document;
     private int checks;
     private int wrong;
 
@@ -20,6 +24,24 @@ final class Check {
     void sentence(int promise, String words) {
         sentence = " [" + promise + ": " + words + "]";
         sentences.add(sentence);
+    }
+
+    /** As sentence(), but the words are the document's own, as long as it can be found. */
+    void quote(int promise, String words) {
+        sentence(promise, words);
+        if (document == null) {
+            document = readDocument();
+        }
+        due("the words stand in the document", document.isEmpty() || document.contains(words) ? 1 : 0, 1);
+    }
+
+    private static String readDocument() {
+        Path path = Path.of("..", "shared", "DOC.md");
+        try {
+            return Files.isReadable(path) ? Files.readString(path) : "";
+        } catch (IOException e) {
+            return "";
+        }
     }
 
     void due(String call, long got, long want) {
