@@ -775,7 +775,7 @@ public final class IceBoats {
     private void tellShare(long part, long all) {
         long over = part;
         long under = all;
-        while (under > 1 && over % 2 == 0) {
+        for (int halved = 0; halved < 2 * ODDS_WAYS && under > 1 && over % 2 == 0; halved++) {
             over /= 2;
             under /= 2;
         }

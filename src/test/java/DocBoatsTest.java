@@ -5,6 +5,9 @@ final class DocBoatsTest {
     private static final int MAPPER = Fleet.MAPPER, ANCHOR = Fleet.ANCHOR, LOST = Fleet.LOST, DEAD = Fleet.DEAD, HOME = Fleet.HOME;
 
     public static void main(String[] args) {
+        atFirst();
+        theTick();
+        toldOfEach();
         aLotForEachBoat();
         noLotButInATick();
         kindsThatOneIs();
@@ -29,6 +32,68 @@ final class DocBoatsTest {
 
     private static void is(IceBoats x, int b, int what, long due) {
         CHECK.asked(x, "told(" + b + ", " + what + ")", x.told(b, what), due);
+    }
+
+    private static void atFirst() {
+        CHECK.quote(0, "BOATS 0 .. 5 are of a KIND: 0 BOAT (all, at first)");
+        IceBoats x = new IceBoats();
+        for (int b = 0; b < 6; b++) {
+            is(x, b, 0, 0);
+        }
+        CHECK.bad(x, "there is no BOAT 6", () -> x.told(6, 0));
+        CHECK.quote(0, "Each is in a CELL (0 at first), has POWER (0 .. 1000; 100 at first) and COULD be in a set of CELLS (just its own one, at first).");
+        for (int b = 0; b < 6; b++) {
+            is(x, b, 1, 0);
+            is(x, b, 2, 100);
+            CHECK.due("COULD", Fleet.could(x, b), 1);
+        }
+        CHECK.due("POWER 0", x.boat(0, 0, 0, 0), 1);
+        CHECK.due("POWER 1000", x.boat(0, 0, 0, 1000), 1);
+        CHECK.bad(x, "POWER 1001", () -> x.boat(0, 0, 0, 1001));
+        CHECK.bad(x, "POWER -1", () -> x.boat(0, 0, 0, -1));
+    }
+
+    private static void theTick() {
+        CHECK.quote(0, "THE TICK is 0 at first (999 at most).");
+        IceBoats x = new IceBoats();
+        for (int t = 0; t < 999; t++) {
+            CHECK.due("THE TICK", x.count(0), t);
+            CHECK.due("tick()", x.tick(), 0);
+        }
+        CHECK.due("THE TICK", x.count(0), 999);
+        CHECK.state(x, "no more", x::tick);
+        CHECK.quote(20, "STATE: THE TICK is 999.");
+        CHECK.state(x, "never more", x::tick);
+        CHECK.due("what is no TICK goes on", x.look(0), 0);
+        CHECK.asked(x, "at 999", x.looked(0, 3), 999);
+    }
+
+    private static void toldOfEach() {
+        CHECK.quote(16, "Of a BOAT: 0 its KIND, 1 CELL, 2 POWER, 3 how many CELLS are in COULD, 4 how many LOOKS it HOLDS, 5 the TICK at which it heard last (0 at first, and as it is let down: THE TICK), told by asked(): 1.");
+        IceBoats x = Fleet.only(40, 9);
+        Fleet.currents(x, 4);
+        x.boat(0, 2, 40, 77);
+        x.look(0);
+        x.look(0);
+        x.say(1, 0, 0);
+        x.seed(Fleet.seedFor("11"));
+        x.tick();
+        int[] due = {2, 48, 69, 2, 2, 0};
+        for (int what = 0; what < 6; what++) {
+            is(x, 0, what, due[what]);
+        }
+        // 9 to 40 takes 5
+        CHECK.ticks(x, 3);
+        is(x, 0, 5, 0);
+        CHECK.due("heard", x.tick(), 1);
+        is(x, 0, 5, 5);
+        x.boat(0, 0, 1, 1);
+        is(x, 0, 5, 5);
+        x.tick();
+        x.boat(0, 0, 1, 1);
+        is(x, 0, 5, 6);
+        is(x, 0, 4, 2);
+        is(x, 0, 3, 1);
     }
 
     private static void aLotForEachBoat() {
@@ -381,6 +446,18 @@ final class DocBoatsTest {
         x.say(1, 0, 0);
         CHECK.ticks(x, 12);
         is(x, 0, 0, LOST);
+        CHECK.due("since when", x.mark(0, LOST), 4);
+        // nor is it found by words, or ABLE again, if its RULES tell nothing of it any more
+        IceBoats y = Fleet.only(9, 12);
+        Fleet.rules(y, 0, "L0");
+        y.say(1, 0, 0);
+        y.tick();
+        is(y, 0, 0, LOST);
+        Fleet.rules(y, 0, "");
+        CHECK.ticks(y, 2);
+        CHECK.due("not ABLE as it came", y.heard(0, 0), -12);
+        is(y, 0, 0, LOST);
+        CHECK.due("since when", y.mark(0, LOST), 1);
     }
 
     private static void looksOfEachKind() {
@@ -404,6 +481,12 @@ final class DocBoatsTest {
     }
 
     private static void looksHeld() {
+        CHECK.quote(21, "A BOAT looks: the LOOK.");
+        IceBoats many = new IceBoats();
+        for (int l = 0; l < 40; l++) {
+            CHECK.due("LOOK " + l, many.look(l % 6), l);
+        }
+        CHECK.full(many, "no more", () -> many.look(0));
         CHECK.quote(22, "Of a LOOK: 0 its CELL, 1 ICE, 2 BOATS that HOLD it (bits), 3 THE TICK at which it was, told by asked(): 1.");
         IceBoats x = new IceBoats();
         for (int b = 0; b < 6; b++) {
@@ -632,6 +715,14 @@ final class DocBoatsTest {
     }
 
     private static void homes() {
+        CHECK.quote(0, "HOME comes a BOAT that is ABLE and in THE HOLE's CELL.");
+        for (int kind = 0; kind <= ANCHOR; kind++) {
+            IceBoats w = Fleet.ofKind(kind, 9, 1);
+            CHECK.state(w, "a " + kind + " elsewhere", () -> w.home(0));
+            w.hole(9);
+            CHECK.due("a " + kind, w.home(0), 1);
+            is(w, 0, 0, HOME);
+        }
         CHECK.quote(24, "A BOAT comes HOME: 1.");
         IceBoats x = Fleet.only(9, 8);
         x.cell(9, 3, 1, 0);

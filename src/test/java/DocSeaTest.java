@@ -6,6 +6,7 @@ final class DocSeaTest {
     public static void main(String[] args) {
         used512Times();
         rowsAndTexts();
+        places();
         rowsAnew();
         cellsByXAndY();
         nextCells();
@@ -61,6 +62,46 @@ final class DocSeaTest {
         CHECK.bad(x, "there is no TEXT 4", () -> x.text(4, 1));
         CHECK.due("but a ROW 4", x.row(4, 1), 1);
         CHECK.due("and a ROW 5", x.row(5, 1), 1);
+    }
+
+    private static void places() {
+        CHECK.quote(3, "Place i of a ROW is v: what it was, told by asked(): 1.");
+        IceBoats x = new IceBoats();
+        for (int r = 0; r < 6; r++) {
+            x.row(r, 40);
+        }
+        for (int r = 0; r < 6; r++) {
+            for (int i = 0; i < 40; i++) {
+                CHECK.asked(x, "place " + i + " of ROW " + r, x.lay(r, i, 100 * r + i + 1), 0);
+            }
+        }
+        for (int r = 0; r < 6; r++) {
+            for (int i = 0; i < 40; i++) {
+                CHECK.asked(x, "place " + i + " of ROW " + r + " again", x.lay(r, i, 100 * r + i + 1), 100 * r + i + 1);
+            }
+        }
+        CHECK.quote(5, "n places of a ROW, from one on, come to those of another one (perhaps itself) from one on, as if taken ahead: 1.");
+        CHECK.due("from ROW 1 to ROW 2", x.copy(1, 10, 2, 30, 5), 1);
+        for (int i = 0; i < 40; i++) {
+            CHECK.asked(x, "ROW 2, " + i, x.lay(2, i, 0), i >= 30 && i < 35 ? 100 + i - 20 + 1 : 200 + i + 1);
+            CHECK.asked(x, "ROW 1, " + i, x.lay(1, i, 0), 100 + i + 1);
+        }
+        for (int by : new int[] {-3, -1, 0, 1, 3}) {
+            CHECK.row(x, 0, 0, 1, 2, 3, 4, 5, 6, 7, 8, 9);
+            CHECK.due("to itself, by " + by, x.copy(0, 3, 0, 3 + by, 4), 1);
+            for (int i = 0; i < 10; i++) {
+                CHECK.asked(x, "by " + by + ", " + i, x.lay(0, i, 0), i >= 3 + by && i < 7 + by ? i - by : i);
+            }
+        }
+        CHECK.quote(8, "Byte i of a TEXT is v, cut to a byte: what it was, and 1000 more.");
+        x.text(0, 1);
+        int[] put = {0, 127, 128, 255, 256, -1, -128, -129, Integer.MAX_VALUE, Integer.MIN_VALUE, 72 + 512};
+        int was = 32;
+        for (int v : put) {
+            CHECK.due("put(" + v + ")", x.put(0, 0, v), was + 1000);
+            was = (v & 255) >= 128 ? (v & 255) - 256 : v & 255;
+        }
+        CHECK.due("the last one", x.put(0, 0, 0), 1072);
     }
 
     private static void rowsAnew() {
@@ -155,6 +196,20 @@ final class DocSeaTest {
     }
 
     private static void whatACellHas() {
+        CHECK.quote(0, "A CELL is ROCK or not (at first), has a CURRENT (a WAY; 0 at first), a WARMTH (1 .. 4; 1 at first), ICE above it (0 .. 9; 0 at first).");
+        IceBoats fresh = new IceBoats();
+        int[] first = {0, 0, 1, 0, NONE};
+        for (int c = 0; c < 64; c++) {
+            for (int what = 0; what < 5; what++) {
+                CHECK.asked(fresh, "at first, sea(" + c + ", " + what + ")", fresh.sea(c, what), first[what]);
+            }
+        }
+        for (int v = -1; v <= 10; v++) {
+            CHECK.due("CURRENT " + v, fresh.cell(3, v, 1, 0), v >= 0 && v <= 4 ? 1 : -1);
+            CHECK.due("WARMTH " + v, fresh.cell(3, 0, v, 0), v >= 1 && v <= 4 ? 1 : -1);
+            CHECK.due("ICE " + v, fresh.cell(3, 0, 1, v), v >= 0 && v <= 9 ? 1 : -1);
+            CHECK.due("ICE " + v + " of the CHART", fresh.chart(3, v), v >= 0 && v <= 9 ? 1 : -1);
+        }
         CHECK.quote(10, "CURRENT, WARMTH, ICE of a CELL: 1.");
         IceBoats x = new IceBoats();
         CHECK.due("cell()", x.cell(5, 1, 2, 3), 1);

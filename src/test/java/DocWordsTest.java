@@ -8,6 +8,7 @@ final class DocWordsTest {
         sounds();
         kindsThatOneIs();
         saidByEachKind();
+        wordsToldOf();
         heardByEachKind();
         comesByTrueCells();
         eachKindIsMet();
@@ -114,6 +115,26 @@ final class DocWordsTest {
             CHECK.due("of BOAT " + b, x.say(b, WORD, 0), b);
         }
         CHECK.due("words", x.count(2), 6);
+    }
+
+    private static void wordsToldOf() {
+        CHECK.quote(27, "Of a word: 0 its KIND, 1 who said it, 2 when, 3 v (0: not looked at), told by asked(): 1.");
+        IceBoats x = new IceBoats();
+        x.look(4);
+        x.look(4);
+        int[] v = {9, 9, 1, 3, 44, 9};
+        int[] due = {0, 0, 1, 3, 44, 0};
+        for (int kind = WORD; kind <= LEAVE; kind++) {
+            x.tick();
+            x.boat(4, 0, 0, 100);
+            CHECK.due("said", x.say(4, kind, v[kind]), kind);
+        }
+        for (int kind = WORD; kind <= LEAVE; kind++) {
+            CHECK.asked(x, "KIND", x.word(kind, 0), kind);
+            CHECK.asked(x, "who", x.word(kind, 1), 4);
+            CHECK.asked(x, "when", x.word(kind, 2), kind + 1);
+            CHECK.asked(x, "v", x.word(kind, 3), due[kind]);
+        }
     }
 
     private static void heardByEachKind() {

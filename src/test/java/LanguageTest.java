@@ -15,6 +15,7 @@ final class LanguageTest {
         String path = args.length > 0 ? args[0] : "src/main/java/IceBoats.java";
         String text = Files.readString(Path.of(path));
         String code = text.replaceAll("(?s)/\\*.*?\\*/", "").replaceAll("//[^\n]*", "");
+        face(text);
         words(code);
         names(code);
         shape(code);
@@ -27,6 +28,33 @@ final class LanguageTest {
         Matcher m = Pattern.compile(pattern).matcher(code);
         boolean there = m.find();
         CHECK.due(rule + (there ? ": '" + m.group() + "'" : ""), there ? 1 : 0, 0);
+    }
+
+    // The document's face, line by line and in its order, with the headings that it tells ahead of some of its calls
+    private static void face(String text) throws Exception {
+        Path document = Path.of("..", "shared", "DOC.md");
+        if (!Files.isReadable(document)) {
+            return;
+        }
+        String doc = Files.readString(document);
+        int from = 0;
+        Matcher lines = Pattern.compile("\n    public ([^;=]*);").matcher(doc);
+        int found = 0;
+        while (lines.find()) {
+            int at = text.indexOf("    public " + lines.group(1) + " {", from);
+            CHECK.due("the face's " + lines.group(1) + " in its place", at > 0 ? 1 : 0, 1);
+            from = Math.max(from, at);
+            found++;
+        }
+        CHECK.due("the constructor and the calls of the face", found, 48);
+        Matcher heads = Pattern.compile("Ahead of the calls `(\\w+)`.* the interface says: (---- .*)\\.\n").matcher(doc);
+        int headings = 0;
+        while (heads.find()) {
+            Pattern due = Pattern.compile("// " + Pattern.quote(heads.group(2)) + "\n\\s*public \\w+ " + heads.group(1) + "\\(");
+            CHECK.due(heads.group(2) + " ahead of " + heads.group(1), due.matcher(text).find() ? 1 : 0, 1);
+            headings++;
+        }
+        CHECK.due("headings", headings, 6);
     }
 
     private static void words(String code) {
