@@ -6,6 +6,7 @@ final class DocWordsTest {
 
     public static void main(String[] args) {
         sounds();
+        timesOfAllCells();
         kindsThatOneIs();
         saidByEachKind();
         wordsToldOf();
@@ -71,6 +72,51 @@ final class DocWordsTest {
         x.cell(9, 4, 2, 0);
         x.cell(8, 2, 1, 0);
         CHECK.due("CURRENTS are not looked at", x.time(8, 9), 2);
+    }
+
+    // Each CELL to each, in seas of all WARMTHS with ROCK, against sums that are made less until none can be.
+    private static void timesOfAllCells() {
+        CHECK.quote(0, "TIME of two CELLS is the least sum (0 for a CELL and itself); no way: NOTHING.");
+        java.util.Random random = new java.util.Random(5);
+        for (int round = 0; round < 12; round++) {
+            int[] warmth = new int[64];
+            boolean[] rock = new boolean[64];
+            for (int c = 0; c < 64; c++) {
+                warmth[c] = 1 + random.nextInt(4);
+                rock[c] = c > 0 && random.nextInt(12) < round % 6;
+            }
+            for (int from = 0; from < 64; from++) {
+                IceBoats x = new IceBoats();
+                for (int c = 0; c < 64; c++) {
+                    x.cell(c, random.nextInt(5), warmth[c], 0);
+                    x.rock(c, rock[c]);
+                }
+                int[] least = leastSums(from, warmth, rock);
+                for (int to = 0; to < 64; to++) {
+                    int due = rock[from] || rock[to] ? IceBoats.BAD : least[to] > 1000 ? IceBoats.FINDING : least[to];
+                    CHECK.due("time(" + from + ", " + to + ") in sea " + round, x.time(from, to), due);
+                }
+            }
+        }
+    }
+
+    private static int[] leastSums(int from, int[] warmth, boolean[] rock) {
+        int[] least = new int[64];
+        java.util.Arrays.fill(least, 10000);
+        least[from] = 0;
+        for (boolean less = true; less;) {
+            less = false;
+            for (int c = 0; c < 64; c++) {
+                for (int d = 0; d < 64; d++) {
+                    boolean beside = Math.abs(c % 8 - d % 8) + Math.abs(c / 8 - d / 8) == 1;
+                    if (beside && !rock[d] && least[c] + warmth[d] < least[d]) {
+                        least[d] = least[c] + warmth[d];
+                        less = true;
+                    }
+                }
+            }
+        }
+        return least;
     }
 
     private static void kindsThatOneIs() {
