@@ -19,6 +19,7 @@ final class DocBoatsTest {
         couldIsWhatItKnows();
         deadThenLost();
         whatLosingLeaves();
+        whatEndingLeaves();
         looksOfEachKind();
         looksHeld();
         trueCellOfLooks();
@@ -460,6 +461,38 @@ final class DocBoatsTest {
         CHECK.due("since when", y.mark(0, LOST), 1);
     }
 
+    private static void whatEndingLeaves() {
+        CHECK.quote(0, "an ABLE one with POWER 0 is DEAD");
+        for (int kind : new int[] {LOST, DEAD, HOME}) {
+            // heard at 1, a LOOK, two CELLS in COULD, RULES: all stay as it becomes LOST, DEAD or HOME
+            IceBoats x = Fleet.only(9, 8);
+            Fleet.rules(x, 0, kind == LOST ? "H1L1W2E3" : "H1L9W2E3");
+            x.say(1, 0, 0);
+            x.tick();
+            x.boat(0, 0, 9, kind == DEAD ? 4 : 8);
+            x.cell(9, 3, 1, 5);
+            x.hole(9);
+            x.look(0);
+            x.seed(Fleet.seedFor("0000"));
+            x.tick();
+            if (kind == HOME) {
+                x.home(0);
+            }
+            x.tick();
+            is(x, 0, 0, kind);
+            is(x, 0, 1, 9);
+            is(x, 0, 2, kind == DEAD ? 0 : 4);
+            is(x, 0, 3, 2);
+            is(x, 0, 4, 1);
+            is(x, 0, 5, 1);
+            CHECK.due("COULD", Fleet.could(x, 0), Fleet.cells(9, 10));
+            for (int k = 0; k < 4; k++) {
+                CHECK.due("rule " + k, x.rule(0, k), k == 1 ? kind == LOST ? 1 : 9 : k == 0 ? 1 : k);
+            }
+            CHECK.due("it KNOWS", x.knows(0, 0, NONE, NONE), 1);
+        }
+    }
+
     private static void looksOfEachKind() {
         CHECK.quote(0, "A LOOK takes 4 of POWER (a MAPPER: 1): the ICE above the BOAT's CELL.");
         for (int kind = 0; kind <= ANCHOR; kind++) {
@@ -696,8 +729,11 @@ final class DocBoatsTest {
         CHECK.due("an ANCHOR lies there since", x.mark(2, ANCHOR), 1);
         is(x, 2, 2, 47);
         is(x, 3, 2, 44);
+        x.go(2, 3);
+        CHECK.ticks(x, 2);
+        CHECK.due("be it told a WAY", x.mark(2, ANCHOR), 1);
         x.boat(2, ANCHOR, 18, 50);
-        CHECK.due("let down there again", x.mark(2, ANCHOR), 3);
+        CHECK.due("let down there again", x.mark(2, ANCHOR), 5);
         CHECK.quote(17, "a DEAD one how many LOOKS only it HOLDS, a HOME one its POWER.");
         IceBoats y = Fleet.only(9, 17);
         y.look(0);

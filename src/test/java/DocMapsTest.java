@@ -295,8 +295,9 @@ final class DocMapsTest {
             CHECK.row(x, 0, ways);
             long upper = 0;
             long lower = 1L << 2 * ways.length;
-            int from = random.nextInt(64);
-            int home = round % 2 == 0 ? ends(current, ways, from, random.nextInt(1 << ways.length))[ways.length - 1] : random.nextInt(64);
+            int from = noRock(random, current);
+            int any = random.nextInt(1 << ways.length);
+            int home = round % 2 == 0 ? ends(current, ways, from, any)[ways.length - 1] : noRock(random, current);
             x.hole(home);
             for (int row = 0; row < 1 << ways.length; row++) {
                 int[] ends = ends(current, ways, from, row);
@@ -311,13 +312,26 @@ final class DocMapsTest {
         }
     }
 
+    // CURRENTS of all CELLS; -1: ROCK. THE HOLE and all BOATS are in CELL 0.
     private static int[] wildSea(IceBoats x, java.util.Random random) {
         int[] current = new int[64];
         for (int c = 0; c < 64; c++) {
             current[c] = random.nextInt(5);
             x.cell(c, current[c], 1, 0);
+            if (c > 0 && random.nextInt(6) == 0) {
+                current[c] = -1;
+                x.rock(c, true);
+            }
         }
         return current;
+    }
+
+    private static int noRock(java.util.Random random, int[] current) {
+        int c = random.nextInt(64);
+        while (current[c] < 0) {
+            c = random.nextInt(64);
+        }
+        return c;
     }
 
     private static int[] wildWays(java.util.Random random, int most) {
@@ -337,13 +351,18 @@ final class DocMapsTest {
         int[] ends = new int[ways.length];
         int at = from;
         for (int i = 0; i < ways.length; i++) {
-            at = next(at, ways[i]);
+            at = led(current, at, ways[i]);
             if ((row >> ways.length - 1 - i & 1) == 0) {
-                at = next(at, current[at]);
+                at = led(current, at, current[at]);
             }
             ends[i] = at;
         }
         return ends;
+    }
+
+    private static int led(int[] current, int c, int way) {
+        int to = next(c, way);
+        return current[to] < 0 ? c : to;
     }
 
     private static int next(int c, int way) {
@@ -423,7 +442,7 @@ final class DocMapsTest {
             IceBoats x = new IceBoats();
             int[] current = wildSea(x, random);
             int[] ways = wildWays(random, 10);
-            int from = random.nextInt(64);
+            int from = noRock(random, current);
             int[] truth = ends(current, ways, from, random.nextInt(1 << ways.length));
             int[] seen = new int[2 * random.nextInt(4)];
             for (int i = 0; i < seen.length; i += 2) {

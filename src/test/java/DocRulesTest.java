@@ -85,6 +85,17 @@ final class DocRulesTest {
         }
         CHECK.due("of TEXT 0", x.fault(0), 0);
         CHECK.due("finding() is none", x.finding(), 0);
+        // it is told alone: no BOAT's RULES become others by it
+        for (int b = 0; b < 6; b++) {
+            Fleet.rules(x, b, "H1L2W3E4");
+        }
+        CHECK.text(x, 0, "H5L6W7E8");
+        CHECK.due("none", x.fault(0), NONE);
+        for (int b = 0; b < 6; b++) {
+            for (int k = 0; k < 4; k++) {
+                CHECK.due("rule(" + b + ", " + k + ")", x.rule(b, k), k + 1);
+            }
+        }
     }
 
     private static void rulesOfABoat() {
@@ -248,6 +259,12 @@ final class DocRulesTest {
         for (int kind = 0; kind <= Fleet.HOME; kind++) {
             IceBoats x = Fleet.ofKind(kind, 9, 50);
             x.hole(0);
+            Fleet.rules(x, 0, "H46");
+            if (kind <= Fleet.ANCHOR) {
+                CHECK.due("a " + kind + ": 50 is no more than 46 and 2 times 2", x.asks(0), 11);
+                Fleet.rules(x, 0, "H45");
+                CHECK.due("a " + kind + ": 50 is more than 45 and 2 times 2", x.asks(0), 0);
+            }
             String[] rules = {"", "H50", "W1", "E1"};
             int[] due = {0, 11, 2, 3};
             for (int i = 0; i < 4; i++) {

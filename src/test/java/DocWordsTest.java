@@ -12,6 +12,8 @@ final class DocWordsTest {
         wordsToldOf();
         heardByEachKind();
         comesByTrueCells();
+        comesWhateverBecomesOfTheSayer();
+        eachKindAtTime12();
         eachKindIsMet();
         metForOneAlone();
         hearingAndSaying();
@@ -19,6 +21,7 @@ final class DocWordsTest {
         farOfTheSayerAlone();
         farForAnchors();
         farByCouldAsItIsThen();
+        farInWildSeas();
         seenGivesOneLook();
         wishForTheNextTick();
         meetByTheLeastCell();
@@ -27,7 +30,9 @@ final class DocWordsTest {
         tellsNothingElse();
         knowing();
         knowingOfOthers();
+        knowingByEachKind();
         knowingOfThree();
+        knowingOfWhatItDoesNotKnow();
         knowingStays();
         allKnowing();
         CHECK.end();
@@ -245,6 +250,51 @@ final class DocWordsTest {
         CHECK.due("and back", y.heard(1, 0), 1);
     }
 
+    private static void comesWhateverBecomesOfTheSayer() {
+        CHECK.quote(0, "It comes to each other BOAT that is ABLE as it is said, TIME of both true CELLS (as it is said) later");
+        for (int boat = Fleet.BOAT; boat <= Fleet.HOME; boat++) {
+            for (int kind = WORD; kind <= LEAVE; kind++) {
+                IceBoats x = Fleet.only(9, 12);
+                x.hole(9);
+                x.look(0);
+                x.say(0, kind, 0);
+                if (boat <= Fleet.ANCHOR) {
+                    x.boat(0, boat, 60, 100);
+                } else if (boat == Fleet.DEAD) {
+                    x.boat(0, 0, 60, 0);
+                } else if (boat == Fleet.LOST) {
+                    Fleet.rules(x, 0, "L0");
+                } else {
+                    x.home(0);
+                }
+                CHECK.due("comes yet", x.heard(0, 1), NONE);
+                CHECK.ticks(x, 2);
+                is(x, 0, 0, boat);
+                CHECK.due("heard, be its sayer a " + boat, x.tick(), 1);
+                CHECK.due("heard", x.heard(0, 1), 3);
+                is(x, 1, 4, kind == SEEN ? 1 : 0);
+                is(x, 1, 5, 3);
+            }
+        }
+    }
+
+    private static void eachKindAtTime12() {
+        CHECK.quote(0, "LOUD is a sound to TIME 12.");
+        for (int kind = WORD; kind <= LEAVE; kind++) {
+            // 0 to 47 takes 7 and 5, 0 to 55 one more
+            IceBoats x = Fleet.only(0, 47, 55);
+            x.look(0);
+            x.say(0, kind, 0);
+            CHECK.due("TIME 12", x.heard(0, 1), NONE);
+            CHECK.due("TIME 13", x.heard(0, 2), NEVER);
+            CHECK.ticks(x, 11);
+            CHECK.due("TIME 12", x.tick(), 1);
+            CHECK.due("TIME 12", x.heard(0, 1), 12);
+            CHECK.due("never", x.tick(), 0);
+            CHECK.due("TIME 13", x.heard(0, 2), NEVER);
+        }
+    }
+
     private static void eachKindIsMet() {
         CHECK.quote(0, "If two come to one BOAT in one TICK, both are MET and lost for it");
         for (int one = WORD; one <= LEAVE; one++) {
@@ -394,6 +444,58 @@ final class DocWordsTest {
         y.tick();
         is(y, 0, 1, 19);
         CHECK.due("18 is, be it that it is in 19 by then", Fleet.could(y, 0), Fleet.cells(18));
+    }
+
+    // Both COULD be in many CELLS; CURRENTS end as the word is said, so that COULD stays until it is heard.
+    private static void farInWildSeas() {
+        CHECK.quote(0, "keeps only CELLS to which the TIME from some CELL of the sayer's COULD (as it said it) is as long as it took, or is 0 and it took 1, by the sea as it is then.");
+        java.util.Random random = new java.util.Random(9);
+        int narrowed = 0;
+        for (int round = 0; round < 300; round++) {
+            int[] warmth = new int[64];
+            boolean[] rock = new boolean[64];
+            int one = 1 + random.nextInt(63);
+            int other = 1 + random.nextInt(63);
+            IceBoats x = Fleet.only(one, other);
+            x.seed(random.nextInt());
+            for (int c = 0; c < 64; c++) {
+                warmth[c] = 1 + random.nextInt(1 + round % 4);
+                rock[c] = c > 0 && c != one && c != other && random.nextInt(8) == 0;
+                x.cell(c, random.nextInt(5), warmth[c], 0);
+                x.rock(c, rock[c]);
+            }
+            for (int t = 0; t < 4; t++) {
+                x.go(0, random.nextInt(5));
+                x.go(1, random.nextInt(5));
+                x.tick();
+            }
+            for (int c = 0; c < 64; c++) {
+                x.cell(c, 0, warmth[c], 0);
+            }
+            long sayer = Fleet.could(x, 0);
+            long hearer = Fleet.could(x, 1);
+            x.say(0, FAR, 0);
+            for (int took = 1; took <= 12; took++) {
+                if (x.tick() == 1) {
+                    long kept = hearer & atTime(sayer, took, warmth, rock);
+                    CHECK.due("COULD in sea " + round, Fleet.could(x, 1), kept == 0 ? hearer : kept);
+                    narrowed += kept != 0 && kept != hearer ? 1 : 0;
+                }
+            }
+            CHECK.due("the sayer's stays", Fleet.could(x, 0), sayer);
+        }
+        CHECK.due("many were narrowed", narrowed > 100 ? 1 : 0, 1);
+    }
+
+    private static long atTime(long sources, int took, int[] warmth, boolean[] rock) {
+        long cells = 0;
+        for (int from = 0; from < 64; from++) {
+            int[] least = leastSums(from, warmth, rock);
+            for (int c = 0; c < 64 && (sources >> from & 1) == 1; c++) {
+                cells |= least[c] == took || least[c] == 0 && took == 1 ? 1L << c : 0;
+            }
+        }
+        return cells;
     }
 
     private static void seenGivesOneLook() {
@@ -623,6 +725,60 @@ final class DocWordsTest {
         CHECK.due("BOAT 1 KNOWS word 1", y.knows(1, 1, NONE, NONE), 2);
         CHECK.due("BOAT 2 HEARD word 0, of BOAT 1", y.heard(0, 2), 4);
         CHECK.due("that was said ahead of it", y.knows(1, 2, 1, NONE), NONE);
+    }
+
+    private static void knowingByEachKind() {
+        CHECK.quote(0, "from the first TICK at which a HEARD a word that b said at a TICK no earlier than b KNEW");
+        for (int of = WORD; of <= LEAVE; of++) {
+            for (int by = WORD; by <= LEAVE; by++) {
+                IceBoats x = Fleet.only(9, 10);
+                x.look(0);
+                x.look(1);
+                x.say(0, of, 0);
+                x.tick();
+                CHECK.due("a " + of + " KNOWN", x.knows(0, 1, NONE, NONE), 1);
+                CHECK.due("and that its sayer KNOWS", x.knows(0, 1, 0, NONE), 1);
+                CHECK.due("by no word yet", x.knows(0, 0, 1, NONE), NONE);
+                CHECK.due("said", x.say(1, by, by == SEEN ? 1 : 0), 1);
+                x.boat(1, 0, 10, 100);
+                x.tick();
+                CHECK.due("that a " + of + " is KNOWN, by a " + by, x.knows(0, 0, 1, NONE), 2);
+                CHECK.due("deep 2", x.allKnow(0, 3, 2), 2);
+            }
+        }
+    }
+
+    private static void knowingOfWhatItDoesNotKnow() {
+        CHECK.quote(0, "A chain of three likewise.");
+        // word 0 takes 10 from BOAT 2 to BOAT 1; let down beside it, BOAT 2 says another one
+        IceBoats x = Fleet.only(24, 25, 35);
+        x.boat(2, 0, 35, 100);
+        x.cell(25, 0, 4, 0);
+        x.rock(33, true);
+        x.rock(26, true);
+        x.rock(17, true);
+        x.say(2, WORD, 0);
+        CHECK.due("24 is between", x.time(35, 25) > 6 ? 1 : 0, 1);
+        int hears = x.time(35, 25);
+        x.cell(25, 0, 1, 0);
+        x.boat(0, 0, 24, 100);
+        x.tick();
+        x.boat(2, 0, 25, 100);
+        x.say(2, WORD, 0);
+        x.tick();
+        CHECK.due("BOAT 1 HEARD word 1", x.heard(1, 1), 2);
+        CHECK.due("BOAT 1 does not KNOW word 0", x.knows(0, 1, NONE, NONE), NONE);
+        CHECK.due("but that BOAT 2 KNOWS it", x.knows(0, 1, 2, NONE), 2);
+        x.say(1, WORD, 0);
+        x.tick();
+        CHECK.due("BOAT 0 KNOWS that 1 KNOWS that 2 KNOWS", x.knows(0, 0, 1, 2), 3);
+        CHECK.due("not that 1 KNOWS", x.knows(0, 0, 1, NONE), NONE);
+        while (x.count(0) < hears) {
+            x.tick();
+        }
+        CHECK.due("BOAT 1 KNOWS word 0 at last", x.knows(0, 1, NONE, NONE), hears);
+        CHECK.due("that 2 KNOWS it: as before", x.knows(0, 1, 2, NONE), 2);
+        CHECK.due("of three: as before", x.knows(0, 0, 1, 2), 3);
     }
 
     private static void knowingOfThree() {
